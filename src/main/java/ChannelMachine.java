@@ -1087,9 +1087,17 @@ public final class ChannelMachine {
             box.clear();
             acts = 0;
             fault = NO_FAULT;
-            state = TO_BE_RUN;
-            ready.add(tasks.make(0, Tasks.NONE));
+            state = start(0, Tasks.NONE) ? TO_BE_RUN : OVER;
             return old;
+        }
+
+        /** Makes a task; one without any ACT ends at once, is put nowhere, and the answer is false. */
+        private boolean start(int at, int parent) {
+            if (code.operation(at) == Code.END) {
+                return false;
+            }
+            ready.add(tasks.make(at, parent));
+            return true;
         }
 
         private void removeTasks() {
@@ -1199,8 +1207,7 @@ public final class ChannelMachine {
             tasks.goTo(task, behind);
             int child = at + 1;
             for (int k = 0; k < Code.MOST && child < behind; k++) {
-                if (code.operation(child + 1) != Code.END) {
-                    ready.add(tasks.make(child + 1, task));
+                if (start(child + 1, task)) {
                     tasks.addChild(task);
                 }
                 child = code.operand(child);

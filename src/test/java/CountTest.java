@@ -3,6 +3,7 @@ final class CountTest {
     public static void main(String[] args) {
         countsARunningProgram();
         countsWhatIsLeftOfAProgram();
+        countsNothingOfAProgramWithoutAct();
         knowsNothingElse();
         Check.finish();
     }
@@ -55,6 +56,17 @@ final class CountTest {
         m.load();
         Check.arithmetic("run(9)", () -> m.run(9));
         counts(m, "divided", -1, 0, 0, 0, 4, 0, 0, 3, 0);
+    }
+
+    private static void countsNothingOfAProgramWithoutAct() {
+        for (String text : new String[] {"()", "(())", "(()())", "((())())"}) {
+            ChannelMachine m = Check.loaded(text);
+            counts(m, text, -1, 0, 0, 0, 0, 0, 0, 2, 0);
+            Check.noElement("take() of " + text, m::take);
+            m.set(0, 3);
+            Check.variables(m, text, 3);
+        }
+        counts(Check.loaded("(.())"), "(.())", -1, 0, 1, 1, 0, 0, 0, 1, 0);
     }
 
     private static void knowsNothingElse() {

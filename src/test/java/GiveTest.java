@@ -5,6 +5,7 @@ final class GiveTest {
         holdsEight();
         givesAtOnceToATaskThatWaits();
         needsAProgramToBeRun();
+        needsAProgramWithAnAct();
         Check.finish();
     }
 
@@ -70,5 +71,15 @@ final class GiveTest {
         Check.outOfState("run(2)", () -> m.run(2));
         Check.outOfState("give(1) to a broken one", () -> m.give(1));
         Check.due("the gift stays", 1, () -> m.count(5));
+    }
+
+    private static void needsAProgramWithAnAct() {
+        for (String text : new String[] {"()", "(())", "(()())", "((())())"}) {
+            ChannelMachine m = Check.loaded(text);
+            Check.outOfState("give(1) to " + text, () -> m.give(1));
+            Check.due("gifts of " + text, 0, () -> m.count(5));
+        }
+        ChannelMachine m = Check.loaded("((())I?a)");
+        Check.due("give(1) to ((())I?a)", 1, () -> m.give(1));
     }
 }

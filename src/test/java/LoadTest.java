@@ -2,6 +2,7 @@
 final class LoadTest {
     public static void main(String[] args) {
         readsProcesses();
+        readsProgramsWithoutAct();
         readsExpressions();
         readsToTheLimits();
         tellsWhereProcessesGoWrong();
@@ -13,16 +14,26 @@ final class LoadTest {
         keepsTheOldProgram();
         startsAnew();
         startsAnewManyTimes();
+        startsAnewWithoutAct();
         Check.finish();
     }
 
-    private static void reads(String text, int processes) {
+    private static ChannelMachine read(String text, int processes) {
         ChannelMachine m = new ChannelMachine();
         Check.type(m, text);
         Check.due("load() of " + text, processes, m::load);
         Check.due("THE PLACE after " + text, -1, () -> m.count(0));
         Check.due("the text after " + text, 0, () -> m.type(0));
-        Check.state(m, text, 0, 1, 1, 0, 1);
+        return m;
+    }
+
+    private static void reads(String text, int processes) {
+        Check.state(read(text, processes), text, 0, 1, 1, 0, 1);
+    }
+
+    /** The program is over as soon as it is read. */
+    private static void readsWithoutAct(String text, int processes) {
+        Check.state(read(text, processes), text, 0, 0, 0, 0, 2);
     }
 
     private static void refuses(String text, int place) {
@@ -35,13 +46,15 @@ final class LoadTest {
     }
 
     private static void readsProcesses() {
-        for (String text : new String[] {".", "#", "()", "{}", "[]", "a:1", "f:0", "A!1", "D!f", "O!1", "A?a",
+        for (String text : new String[] {".", "#", "{}", "[]", "a:1", "f:0", "A!1", "D!f", "O!1", "A?a",
             "D?f", "I?a", "@5"}) {
             reads(text, 1);
         }
         reads("(.#.)", 4);
-        reads("(()(()))", 4);
+        reads("(()(.))", 4);
         reads("{.#.}", 4);
+        reads("{()}", 2);
+        reads("^a,()", 2);
         reads("^a,.", 2);
         reads("^a,^b,#", 3);
         reads("?a,.,#", 3);
@@ -53,6 +66,19 @@ final class LoadTest {
         reads("(a:12b:3)", 3);
         reads("(a:b?c,.,.)", 5);
         reads("(A?a?c,.,.)", 5);
+    }
+
+    private static void readsProgramsWithoutAct() {
+        readsWithoutAct("()", 1);
+        readsWithoutAct("(())", 2);
+        readsWithoutAct("(()())", 3);
+        readsWithoutAct("(()(()))", 4);
+        readsWithoutAct("((())())", 4);
+        readsWithoutAct("((((((()))))))", 7);
+        readsWithoutAct("(" + "()".repeat(35) + ")", 36);
+        reads("((())().)", 5);
+        reads("(.(()))", 4);
+        reads("(()({}))", 4);
     }
 
     private static void readsExpressions() {
@@ -67,7 +93,7 @@ final class LoadTest {
         reads("a:((((1))))", 1);
         reads("a:-(-(b))", 1);
         reads("a:((((1+2*3<4))))+((((5))))", 1);
-        reads("((((((()))))))", 7);
+        reads("((((((.))))))", 7);
         reads("(((((({}))))))", 7);
         reads("{{{{{{{}}}}}}}", 7);
         reads("(((((([]))))))", 7);
@@ -240,6 +266,35 @@ final class LoadTest {
         Check.type(m, "{.}");
         m.load();
         Check.due("a parent of one child", ChannelMachine.ENDED, () -> m.run(2));
+    }
+
+    /** A program that is over when it is read takes the place of the one before like any other. */
+    private static void startsAnewWithoutAct() {
+        ChannelMachine m = Check.loaded("{(O!7@3O!8)(I?aI?b)(A?c)@50}");
+        m.give(5);
+        m.set(5, 8);
+        Check.due("run(8)", ChannelMachine.MORE, () -> m.run(8));
+        Check.due("TIME", 3, () -> m.count(1));
+        Check.type(m, "(()())");
+        Check.due("load() of (()()) over one to be run", 3, m::load);
+        Check.state(m, "(()())", 0, 0, 0, 0, 2);
+        Check.due("nobody waits for TIME", 0, () -> m.count(8));
+        Check.due("gifts", 0, () -> m.count(5));
+        Check.box(m, "(()())");
+        Check.variables(m, "(()())", 0, 0, 0, 0, 0, 0);
+        for (int c = 0; c < 6; c++) {
+            int number = c;
+            Check.due("channel(" + c + ") of (()())", 0, () -> m.channel(number));
+        }
+        Check.type(m, "())");
+        Check.bad("load() of ())", m::load);
+        Check.due("THE PLACE of ())", 2, () -> m.count(0));
+        Check.due("still over", 2, () -> m.count(7));
+        Check.type(m, "(()a:4)");
+        Check.due("load() over one without any ACT", 3, m::load);
+        Check.state(m, "(()a:4)", 0, 1, 1, 0, 1);
+        Check.due("run(1)", ChannelMachine.ENDED, () -> m.run(1));
+        Check.variables(m, "(()a:4)", 4);
     }
 
     private static void startsAnew() {

@@ -83,7 +83,8 @@ final class RandomCallsTest {
         Check.type(machine, whole.substring(0, Math.min(72, whole.length())));
         try {
             machine.load();
-            if (machine.count(0) != before || machine.count(7) != 1) {
+            int state = whole.matches("[()]*") ? 2 : 1;
+            if (machine.count(0) != before || machine.count(7) != state) {
                 Check.report(call + " did not become the program");
             }
         } catch (IllegalArgumentException e) {

@@ -9,6 +9,7 @@ final class RunTest {
         parallelTasksInOrder();
         tasksEndAtOnce();
         tasksWithoutActs();
+        programsWithoutActs();
         endsWithoutAnotherAct();
         meetsAtChannels();
         comesToADeadlock();
@@ -146,8 +147,6 @@ final class RunTest {
     }
 
     private static void tasksWithoutActs() {
-        ends("()", 0);
-        ends("(()(()))", 0);
         ends("{()}", 1);
         ends("{()(())}", 1);
         ends("({()()}O!1)", 2, 1);
@@ -156,6 +155,20 @@ final class RunTest {
         m.run(1);
         Check.state(m, "one of three has an ACT", 0, 1, 2, 1, 1);
         Check.due("run(1)", ChannelMachine.ENDED, () -> m.run(1));
+    }
+
+    /** The task that runs the program ends when it's made too, so there is nothing to be run. */
+    private static void programsWithoutActs() {
+        for (String text : new String[] {"()", "(())", "(()())", "((())())", "((((((()))))))"}) {
+            ChannelMachine m = Check.loaded(text);
+            Check.bad("run(0) of " + text, () -> m.run(0));
+            Check.bad("run(201) of " + text, () -> m.run(201));
+            Check.outOfState("run(1) of " + text, () -> m.run(1));
+            Check.outOfState("run(200) of " + text, () -> m.run(200));
+            Check.state(m, text, 0, 0, 0, 0, 2);
+        }
+        ends("(()(()).)", 1);
+        ends("((.)()())", 1);
     }
 
     private static void endsWithoutAnotherAct() {
