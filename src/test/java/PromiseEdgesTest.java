@@ -19,6 +19,7 @@ final class PromiseEdgesTest {
         loadEmptiesTheText();
         placeOfACharacter();
         placeOfTheEnd();
+        placesInPrograms();
         oldProgramStays();
         newProgram();
         processesOfAProgram();
@@ -94,9 +95,9 @@ final class PromiseEdgesTest {
             most += 3;
         }
         play(calls.toString());
-        StringBuilder loads = new StringBuilder("bytes 2E 1");
+        StringBuilder loads = new StringBuilder("bytes 7B2323237D 5");
         for (int k = 1; k + 3 <= 512; k += 3) {
-            loads.append("; load 1; run 1 ENDED; bytes 2E 1");
+            loads.append("; load 4; run 4 MORE; bytes 7B2323237D 5");
         }
         play(loads.toString());
     }
@@ -203,6 +204,23 @@ final class PromiseEdgesTest {
         Script.refuses("a:1" + "+1".repeat(34) + "-", 72);
     }
 
+    /** These programs begin with each of their beginnings, none of which is a program, and none goes on with ~. */
+    private static void placesInPrograms() {
+        Script.sentence("3: the first character with which, after those before, no program could begin");
+        for (String program : new String[] {"{(a:1A!b)(A?c^1<2,@3)#}", "[1&.,?a,.,.-b&A?a,[]0=1&I?f,(.)(c)&D?d,{}]",
+            "(a:----1+((((2))))*-(-(c))/d%999<-e)", "((((((.))))))", "((((((a:1))))))", "((((((A?a))))))", "(((((([]))))))",
+            "?1,?2,?3,?4,?5,?6,.,.,.,.,.,.,.", "^1,^2,^3,^4,^5,^6,O!0", "[1&.,[2&.,[3&.,[4&.,[5&.,[6&.,{}]]]]]]",
+            "{{....}{()()()()}{@1@2@3@4}{{}{}{}{}}}", "[1&.,.1&.,.1&.,.1&.,.]", "(" + ".".repeat(69) + ")"}) {
+            for (int length = 0; length < program.length(); length++) {
+                String beginning = program.substring(0, length);
+                Script.refuses(beginning, length);
+                Script.refuses(beginning + "~", length);
+            }
+            Script.refuses(program + "~", program.length());
+            Script.play("program " + program + "; count 0 -1");
+        }
+    }
+
     private static void oldProgramStays() {
         Script.sentence("3: the old program stays.");
         play("load ( BAD; counts 0 0 0 0 0 0 0 0; run 1 STATE");
@@ -227,6 +245,11 @@ final class PromiseEdgesTest {
         play("load (@3O!1f:7) 4; give 1 1; run 9 ENDED; load f:f+1 1" + clean);
         play("load (@3O!1f:7#) 5; give 1 1; run 9 STATE; load f:f+1 1" + clean);
         play("load f:f+1 1; run 1 ENDED; load f:f+1 1" + clean);
+        play("load a:1/0 1; run 1 ARITHMETIC; load f:f+1 1" + clean);
+        play("load [1/0&.,.] 2; run 1 ARITHMETIC; load f:f+1 1" + clean);
+        play("load {A!1A!2} 3; run 3 STATE; load f:f+1 1" + clean);
+        play("load {##} 3; run 3 MORE; load {.} 2; run 1 MORE; counts 0 1 2 1 0 0 1 0; run 1 ENDED");
+        play("load {A?aI?b} 3; run 3 MORE; load {A?aI?b} 3; run 3 MORE; channels 1 0 0 0 1 0");
         play("load (O!1.) 3; run 1 MORE; load () 1; counts 0 0 0 0 0 0 2 0; box");
     }
 

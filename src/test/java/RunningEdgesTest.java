@@ -116,7 +116,7 @@ final class RunningEdgesTest {
         play("program ({.@3}O!1); run 3 MORE; counts 0 0 2 3 0 0 1 1; run 9 ENDED; count 1 3; box 1");
         play("program {({O!1O!2}O!5)(O!3^a<1,a:1O!4)}; run 50 ENDED; count 4 10; box 3 1 2 4 5");
         play("program {{....}{....}{....}{....}}; run 5 MORE; counts 0 16 21 5 0 0 1 0; run 16 ENDED; count 4 21");
-        play("program (^a<50,{a:a+1}O!a); run 152 ENDED; count 4 152; box 50");
+        play("program (^a<99,{a:a+1}O!a); run 200 MORE; run 99 ENDED; count 4 299; box 99");
     }
 
     private static void parallelsWithoutAny() {
@@ -264,6 +264,9 @@ final class RunningEdgesTest {
             play("program " + text + "; run 1 MORE; counts 0 0 1 1 0 0 1 0; channels 0 0 0 0 0 0; give 1 1; run 1 STATE; "
                 + "counts 0 0 0 1 1 0 3 0");
         }
+        for (String text : new String[] {"([]O!1+2O!3)", "([0&.,.]O!1+2O!3)", "([]I?aO!3)", "([0&I?a,.][1&.,O!3])"}) {
+            play("program " + text + "; give 1 1; run 9 STATE; counts 0 0 0 1 1 0 3 0");
+        }
     }
 
     private static void delays() {
@@ -290,6 +293,7 @@ final class RunningEdgesTest {
         play("program {I?a#}; run 9 HOST; count 1 0; run 9 HOST; count 1 0");
         play("program {@7I?a}; run 9 HOST; count 1 7; run 9 HOST; count 1 7; give 1 0; run 9 ENDED; count 1 7");
         play("program {(@aO!1@aO!2)(@a@1O!3)}; set 0 " + GREATEST + " DONE; run 99 ENDED; box 1 3 2");
+        play("program {(@5@aO!1)(@5@1O!2)}; set 0 " + GREATEST + " DONE; run 99 ENDED; box 2 1");
     }
 
     private static void sleepersWake() {

@@ -184,6 +184,8 @@ final class TextEdgesTest {
         worth("--b", "5", "0", "5");
         worth("(b)", "5", "0", "5");
         worth("-(b-7)", "5", "0", "2");
+        worth("-b-7", "5", "0", "-12");
+        worth("-b/2", LEAST, "0", "-1073741824");
         worth("(b<7)", "5", "0", "1");
         refuses("a:-", 3);
         refuses("a:-)", 3);
