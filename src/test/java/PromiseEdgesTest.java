@@ -96,8 +96,8 @@ final class PromiseEdgesTest {
         }
         play(calls.toString());
         StringBuilder loads = new StringBuilder("bytes 7B2323237D 5");
-        for (int k = 1; k + 3 <= 512; k += 3) {
-            loads.append("; load 4; run 4 MORE; bytes 7B2323237D 5");
+        for (int k = 1; k + 4 <= 512; k += 4) {
+            loads.append("; load 4; run 4 MORE; count 3 4; bytes 7B2323237D 5");
         }
         play(loads.toString());
     }
