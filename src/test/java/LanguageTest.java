@@ -1,4 +1,7 @@
 import java.io.IOException;
+import java.lang.reflect.Field;
+import java.lang.reflect.Method;
+import java.lang.reflect.Modifier;
 import java.nio.file.Files;
 import java.nio.file.Path;
 import java.util.List;
@@ -19,6 +22,7 @@ final class LanguageTest {
             look(line.replaceAll("\"[^\"]*\"", "\"\"").replaceAll("//.*|^ *(/\\*\\*|\\*).*", ""), line);
         }
         lookAtMethods(lines);
+        lookAtClasses();
         Check.finish();
     }
 
@@ -59,5 +63,45 @@ final class LanguageTest {
                 Check.report("more than sixty lines: " + lines.get(start));
             }
         }
+    }
+
+    private static void lookAtClasses() {
+        Class<?>[] inside = ChannelMachine.class.getDeclaredClasses();
+        if (inside.length + 1 > 12) {
+            Check.report("more than twelve classes: " + (inside.length + 1));
+        }
+        lookAtClass(ChannelMachine.class);
+        for (Class<?> one : inside) {
+            lookAtClass(one);
+            if (!Modifier.isStatic(one.getModifiers()) || Modifier.isPublic(one.getModifiers())) {
+                Check.report("a class inside is neither private nor package-visible, or not static: " + one);
+            }
+        }
+    }
+
+    private static void lookAtClass(Class<?> one) {
+        int fields = 0;
+        for (Field field : one.getDeclaredFields()) {
+            if (!Modifier.isStatic(field.getModifiers())) {
+                fields++;
+            }
+        }
+        if (fields > 20) {
+            Check.report("more than twenty fields: " + one);
+        }
+        for (Method method : one.getDeclaredMethods()) {
+            if (!Modifier.isPublic(method.getModifiers()) && isOfTheFace(method.getName())) {
+                Check.report("bears the name of a public method: " + method);
+            }
+        }
+    }
+
+    private static boolean isOfTheFace(String name) {
+        for (Method method : ChannelMachine.class.getDeclaredMethods()) {
+            if (Modifier.isPublic(method.getModifiers()) && method.getName().equals(name)) {
+                return true;
+            }
+        }
+        return false;
     }
 }
